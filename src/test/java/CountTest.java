@@ -21,6 +21,8 @@ public final class CountTest {
         countsOf(x, 0, 14, 1, 20, 149, 51, 0, 0);
         Due.type(x, "10");
         countsOf(x, 5, 16, 1, 20, 149, 51, 8, 12);
+        Due.type(x, ";2345");
+        D.due("all steps, not asked ahead", x.count(7), 16);
         D.due("no finding yet", x.count(8), 0);
         x.lose(0);
         D.due("the finding", x.count(8), 1);
@@ -47,9 +49,32 @@ public final class CountTest {
             x.set(1, 20);
             x.set(0, 5);
             D.due("digest of '" + text + "', all slower", x.digest(), parts(x));
+            x.set(1, 6);
+            x.set(0, 1);
+            x.way(0, 1, 9);
+            D.due("digest of '" + text + "', the watch faster", x.digest(), parts(x));
+            x.set(0, 2);
+            D.due("digest of '" + text + "', with a long way", x.digest(), parts(x));
         }
+        D.due("digest of rounds that differ much", crossed().digest(), parts(crossed()));
         D.due("digest of a new object", new UnguessedRound().digest(), parts(new UnguessedRound()));
         findingsAreNotInIt();
+    }
+
+    /** What is in SHED 2 no thief has in both NIGHTS, so that the lots tell. */
+    private static UnguessedRound crossed() {
+        UnguessedRound x = Due.told("02;1342;12;12;21");
+        x.set(0, 5);
+        x.set(1, 20);
+        x.way(0, 2, 9);
+        x.way(1, 3, 7);
+        x.way(3, 4, 7);
+        x.way(4, 2, 7);
+        for (int shed = 0; shed < 6; shed++) {
+            x.worth(shed, shed == 2 ? 9 : shed == 5 ? 2 : 0);
+        }
+        D.due("the lots tell", x.breaks(0, 1, 6, 2), 90);
+        return x;
     }
 
     private static void findingsAreNotInIt() {

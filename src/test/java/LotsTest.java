@@ -62,6 +62,7 @@ public final class LotsTest {
         x.worth(2, 20);
         x.set(1, 5);
         seenOf(x, 0, 1, 6, 0, 1, 7, 480);
+        seenOf(x, 0, 1, 8, 0, 1, 7, 480);
         seenOf(x, 0, 2, 6, 0, 1, 7, 180);
         seenOf(x, 0, 2, 6, 2, 1, 1, 300);
         seenOf(x, 2, 0, 6, 0, 1, 7, 300);
@@ -133,6 +134,10 @@ public final class LotsTest {
         leastOf(crossed(5, 5), 0, 1, 0, 1, 5, 1);
         leastOf(crossed(5, 9), 0, 1, 0, 1, 9, 1);
         leastOf(crossed(0, 0), 0, 1, 0, 1, 0, 1);
+        leastOf(crossed(0, 1), 0, 1, 0, 1, 1, 1);
+        leastOf(crossed(1, 0), 0, 1, 1, 2, 1, 2);
+        leastByTurns();
+        leastAtTheEdges();
         UnguessedRound x = crossed(9, 2);
         x.way(2, 3, 9);
         leastOf(x, 0, 1, 1, 2, 9, 2);
@@ -142,6 +147,49 @@ public final class LotsTest {
         for (int[] b : bad) {
             D.due("least " + b[0] + ", " + b[1] + ", " + b[2], x.least(b[0], b[1], b[2]), Due.LONG_BAD);
         }
+    }
+
+    /** What was asked ahead of it does not matter. */
+    private static void leastByTurns() {
+        UnguessedRound x = crossed(9, 8);
+        leastOf(x, 0, 1, 1, 9, 8, 1);
+        x.worth(5, 2);
+        D.due("least mean, of both less", x.least(0, 1, 2), 9);
+        x.worth(1, 6);
+        D.due("least mean, of each less", x.least(0, 1, 2), 3);
+        leastOf(x, 0, 1, 1, 2, 3, 1);
+        x.worth(5, 4);
+        leastOf(x, 0, 1, 1, 3, 4, 1);
+        x.worth(0, 7);
+        leastOf(x, 0, 1, 0, 1, 7, 1);
+    }
+
+    /** A thief has it in both NIGHTS from the last MINUTE alone, or from the first alone. */
+    private static void leastAtTheEdges() {
+        UnguessedRound x = crossed(9, 2);
+        x.way(4, 1, 6);
+        leastOf(x, 0, 1, 0, 1, 9, 1);
+        breakOf(x, 8, 1, 40, 144);
+        D.due("lamp in it", x.lamp(0, 1, 8, 1), 112);
+        x.way(4, 1, 7);
+        leastOf(x, 0, 1, 1, 2, 9, 2);
+        UnguessedRound y = Due.told("021;2341");
+        y.set(0, 5);
+        y.set(1, 20);
+        y.way(0, 2, 5);
+        y.way(2, 1, 5);
+        y.way(2, 3, 7);
+        y.way(3, 4, 7);
+        y.way(4, 1, 7);
+        for (int shed = 0; shed < 6; shed++) {
+            y.worth(shed, shed == 1 ? 9 : 0);
+        }
+        leastOf(y, 0, 1, 0, 1, 9, 1);
+        breakOf(y, 8, 1, 0, 144);
+        D.due("lamp in it", y.lamp(0, 1, 8, 1), 144);
+        y.way(0, 2, 4);
+        leastOf(y, 0, 1, 1, 2, 9, 2);
+        breakOf(y, 8, 1, 0, 72);
     }
 
     private static void leastOf(UnguessedRound x, int a, int b, long... answers) {
@@ -160,10 +208,25 @@ public final class LotsTest {
         D.due("lamp in 5, of more", crossed(7, 4).lamp(0, 1, 8, 5), 8);
         D.due("lamp in 1, all that there is", crossed(9, 0).lamp(0, 1, 8, 1), 72);
         D.due("lamp leaves breaks as they are", x.breaks(0, 1, 8, 2), 72);
+        UnguessedRound y = Due.told("1;2");
+        y.worth(0, 30);
+        D.due("lamp in 0, the best", y.lamp(0, 1, 3, 0), 320);
         int[][] bad = {{-1, 0, 0, 0}, {2, 0, 0, 0}, {0, -1, 0, 0}, {0, 2, 0, 0},
             {0, 1, -1, 0}, {0, 1, 17, 0}, {0, 1, 0, -1}, {0, 1, 0, 6}};
         for (int[] b : bad) {
             D.due("lamp " + b[0] + ", " + b[1] + ", " + b[2] + ", " + b[3], x.lamp(b[0], b[1], b[2], b[3]), BAD);
+        }
+    }
+
+    /** Of like ones SHED 0 from MINUTE 0 on: the watch of the one NIGHT is there, and soon gone. */
+    private static void learnFromTheFirst() {
+        UnguessedRound x = Due.told("0;1");
+        x.set(0, 1);
+        for (int n = 1; n <= 5; n++) {
+            D.due("learn, the watch there, gone " + n, x.learn(0, 1, n, 0), n);
+            D.due("learn, the watch there, had " + n, x.learn(0, 1, n, 1), 10 * (n - 1));
+            D.due("learn, the watch not there, gone " + n, x.learn(1, 0, n, 0), 1);
+            D.due("learn, the watch not there, had " + n, x.learn(1, 0, n, 1), n == 1 ? 10 : 10 * (n - 1));
         }
     }
 
@@ -175,6 +238,7 @@ public final class LotsTest {
             D.due("learn " + n + ", gone", x.learn(0, 1, n, 0), gone[n - 1]);
             D.due("learn " + n + ", had", x.learn(0, 1, n, 1), had[n - 1]);
         }
+        learnFromTheFirst();
         D.due("learn of one night alone, gone", x.learn(0, 0, 99, 0), 99);
         D.due("learn of one night alone, had", x.learn(0, 0, 99, 1), 98 * 9);
         int[][] bad = {{-1, 0, 1, 0}, {2, 0, 1, 0}, {0, -1, 1, 0}, {0, 2, 1, 0},

@@ -28,9 +28,11 @@ public final class SheetsTest {
         D.due("sheet of less than none", x.sheet(3, 0, -1), SIZE);
         D.due("its finding", x.count(8), 5);
         D.due("the finding changes nothing", x.get(3, 2, 47), 0);
+        x.put(3, 2, 0, 66);
         x.put(3, 2, 4, 77);
         D.due("a new row", x.sheet(3, 2, 5), 5);
-        D.due("a new row has zeros", x.get(3, 2, 4), 0);
+        D.due("a new row has zeros", x.get(3, 2, 0), 0);
+        D.due("a new row has zeros to its end", x.get(3, 2, 4), 0);
         D.due("a new row has a new size", x.put(3, 2, 5, 1), INDEX);
         D.due("a new row has a new form", x.sheet(3, 1, 5), 5);
         D.due("and no longer the old one", x.put(3, 2, 0, 1), CAST);
