@@ -6,6 +6,8 @@ public final class UnguessedRound {
     public static final int NONE = -1, BAD = -2, NOT = -3, FULL = -4;
 
     private static final int SHEDS = 6, MINUTES = 60, SIXTEENTHS = 16, MOST_NIGHTS = 8;
+    private static final int NO_ITEM = -2147483648;
+    private static final long LEAST_LONG = -9223372036854775808L;
     private static final int NULL = 1, INDEX = 2, CAST = 3, STORE = 4, SIZE = 5;
 
     private final Harbour harbour;
@@ -244,12 +246,12 @@ public final class UnguessedRound {
 
     public int get(int s, int form, int i) {
         if (!isSheet(s) || !isForm(form)) {
-            return Integer.MIN_VALUE;
+            return NO_ITEM;
         }
         int finding = sheets.hindrance(s, form, i);
         if (finding != 0) {
             sheets.found(finding);
-            return Integer.MIN_VALUE;
+            return NO_ITEM;
         }
         return sheets.itemOf(s, i);
     }
@@ -359,7 +361,7 @@ public final class UnguessedRound {
     }
 
     private static long refusal(int answer) {
-        return Long.MIN_VALUE - answer;
+        return LEAST_LONG - answer;
     }
 
     private boolean isLot(int a, int b, int p) {

@@ -187,6 +187,9 @@ public final class LotsTest {
         leastOf(y, 0, 1, 0, 1, 9, 1);
         breakOf(y, 8, 1, 0, 144);
         D.due("lamp in it", y.lamp(0, 1, 8, 1), 144);
+        y.worth(5, 20);
+        D.due("lamp in one that has more", y.lamp(0, 1, 8, 5), 320 - 144);
+        y.worth(5, 0);
         y.way(0, 2, 4);
         leastOf(y, 0, 1, 1, 2, 9, 2);
         breakOf(y, 8, 1, 0, 72);
@@ -232,11 +235,14 @@ public final class LotsTest {
 
     private static void learn() {
         UnguessedRound x = crossed(9, 2);
+        UnguessedRound poor = crossed(1, 0);
         int[] gone = {1, 2, 2, 2, 2, 2, 2, 3};
-        int[] had = {0, 9, 9, 9, 18, 27, 36, 36};
+        int[] thefts = {0, 1, 1, 1, 2, 3, 4, 4};
         for (int n = 1; n <= gone.length; n++) {
             D.due("learn " + n + ", gone", x.learn(0, 1, n, 0), gone[n - 1]);
-            D.due("learn " + n + ", had", x.learn(0, 1, n, 1), had[n - 1]);
+            D.due("learn " + n + ", had", x.learn(0, 1, n, 1), 9 * thefts[n - 1]);
+            D.due("learn " + n + " of the poor, gone", poor.learn(0, 1, n, 0), gone[n - 1]);
+            D.due("learn " + n + " of the poor, had", poor.learn(0, 1, n, 1), thefts[n - 1]);
         }
         learnFromTheFirst();
         D.due("learn of one night alone, gone", x.learn(0, 0, 99, 0), 99);

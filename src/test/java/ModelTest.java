@@ -147,11 +147,11 @@ public final class ModelTest {
             case 16: askSteals(a, shed, number(0, 60 - Math.max(1, m.count(3)))); break;
             case 17: case 18: askNext(number(0, m.count(0)), number(-1, 5), shed, number(0, 1)); break;
             case 19: askLikely(a, number(0, 1)); break;
-            case 20: same("fresh " + shed, x.fresh(shed), m.fresh(shed)); same("fresh", x.fresh(-1), m.fresh(-1)); break;
+            case 20: askFresh(shed); break;
             case 21: askBreaks(a, b, p, number(0, 2)); break;
             case 22: askSeen(a, b, p, shed, number(0, 2)); break;
             case 23: case 24: askLeast(a, b, number(0, 3)); break;
-            case 25: same("lamp " + a + ", " + b + ", " + p + ", " + shed, x.lamp(a, b, p, shed), m.lamp(a, b, p, shed)); break;
+            case 25: askLamp(a, b, p, shed); break;
             case 26: askLearn(a, b, number(1, 99), number(0, 1)); break;
             default: askDice(a, p, number(-1, 1));
         }
@@ -166,7 +166,8 @@ public final class ModelTest {
     }
 
     private void askSteals(int night, int shed, int minute) {
-        same("steals " + night + ", " + shed + ", " + minute, x.steals(night, shed, minute), m.steals(night, shed, minute));
+        String call = "steals " + night + ", " + shed + ", " + minute;
+        same(call, x.steals(night, shed, minute), m.steals(night, shed, minute));
     }
 
     private void askNext(int k, int a, int b, int what) {
@@ -186,6 +187,15 @@ public final class ModelTest {
         int shed = below(2) == 0 ? first : other;
         String call = "seen " + a + ", " + b + ", " + p + ", " + shed + ", " + what;
         same(call, x.seen(a, b, p, shed, what), m.seen(a, b, p, shed, what));
+    }
+
+    private void askFresh(int i) {
+        same("fresh " + i, x.fresh(i), m.fresh(i));
+        same("fresh", x.fresh(-1), m.fresh(-1));
+    }
+
+    private void askLamp(int a, int b, int p, int shed) {
+        same("lamp " + a + ", " + b + ", " + p + ", " + shed, x.lamp(a, b, p, shed), m.lamp(a, b, p, shed));
     }
 
     private void askLeast(int a, int b, int what) {
@@ -211,7 +221,10 @@ public final class ModelTest {
         int n = below(6) == 0 ? number(0, 48) : number(0, 9);
         int v = below(2) == 0 ? number(0, 99) : number(-70000, 70000);
         switch (kind) {
-            case 28: case 29: same("sheet " + s + ", " + form + ", " + n, x.sheet(s, form, n), m.sheet(s, form, n)); break;
+            case 28: case 29: {
+                same("sheet " + s + ", " + form + ", " + n, x.sheet(s, form, n), m.sheet(s, form, n));
+                break;
+            }
             case 30: same("lose " + s, x.lose(s), m.lose(s)); break;
             case 31: case 32: case 33: {
                 same("put " + s + ", " + form + ", " + i + ", " + v, x.put(s, form, i, v), m.put(s, form, i, v));

@@ -13,6 +13,7 @@ public final class SheetsTest {
         copy();
         copyRefusals();
         write();
+        longOnes();
         D.end();
     }
 
@@ -58,7 +59,8 @@ public final class SheetsTest {
             x.sheet(form, form, 2);
             for (int v : values) {
                 D.due("put " + v, x.put(form, form, 1, v), 1);
-                D.due("put " + v + " in form " + form, x.get(form, form, 1), form == 0 ? (byte) v : form == 1 ? (short) v : v);
+                int kept = form == 0 ? (byte) v : form == 1 ? (short) v : v;
+                D.due("put " + v + " in form " + form, x.get(form, form, 1), kept);
             }
             D.due("put leaves the other item", x.get(form, form, 0), 0);
         }
@@ -142,6 +144,25 @@ public final class SheetsTest {
         rowOf(x, 0, 0, 1, 2, 3, 4, 5);
         rowOf(x, 1, 0, 0, 0, 0);
         rowOf(x, 2, 1, 0, 0, 0);
+    }
+
+    /** SHEETS of the greatest size do not touch one another. */
+    private static void longOnes() {
+        UnguessedRound x = Due.told("5");
+        for (int s = 0; s < 4; s++) {
+            x.sheet(s, 2, 48);
+            x.put(s, 2, 0, 10 + s);
+            x.put(s, 2, 47, 20 + s);
+        }
+        x.write(0, 1);
+        x.sheet(2, 2, 48);
+        for (int s = 0; s < 4; s++) {
+            D.due("first item of " + s, x.get(s, 2, 0), s == 1 ? 5 : s == 2 ? 0 : 10 + s);
+            D.due("last item of " + s, x.get(s, 2, 47), s == 1 ? -1 : s == 2 ? 0 : 20 + s);
+        }
+        D.due("copy all to the next", x.copy(0, 0, 1, 0, 48), 1);
+        D.due("first item of the one behind it", x.get(2, 2, 0), 0);
+        D.due("an item behind the last", x.get(0, 2, 48), NO_ITEM);
     }
 
     private static void write() {
