@@ -155,13 +155,17 @@ public final class SheetsTest {
             x.put(s, 2, 47, 20 + s);
         }
         x.write(0, 1);
+        D.due("write leaves the one behind it", x.get(2, 2, 0), 12);
+        D.due("write leaves the one ahead of it", x.get(0, 2, 47), 20);
         x.sheet(2, 2, 48);
+        D.due("a new row leaves the one behind it", x.get(3, 2, 0), 13);
         for (int s = 0; s < 4; s++) {
             D.due("first item of " + s, x.get(s, 2, 0), s == 1 ? 5 : s == 2 ? 0 : 10 + s);
             D.due("last item of " + s, x.get(s, 2, 47), s == 1 ? -1 : s == 2 ? 0 : 20 + s);
         }
+        x.put(2, 2, 0, 32);
         D.due("copy all to the next", x.copy(0, 0, 1, 0, 48), 1);
-        D.due("first item of the one behind it", x.get(2, 2, 0), 0);
+        D.due("first item of the one behind it", x.get(2, 2, 0), 32);
         D.due("an item behind the last", x.get(0, 2, 48), NO_ITEM);
     }
 
