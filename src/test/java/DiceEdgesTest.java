@@ -35,6 +35,9 @@ public final class DiceEdgesTest {
         D.due("alike to the last SHED", y.dice(0, 0, NONE), 2);
         D.due("unlike in the last two", y.dice(1, 16, NONE), 1);
         D.due("unlike by the first", y.dice(3, 16, NONE), 1);
+        UnguessedRound z = Due.told("01234;012345;01234");
+        D.due("unlike by one more", z.dice(0, 16, NONE), 2);
+        D.due("unlike by one less", z.dice(1, 16, NONE), 1);
     }
 
     private static void oneNight() {

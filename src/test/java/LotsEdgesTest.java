@@ -22,6 +22,7 @@ public final class LotsEdgesTest {
         leastIsNotOfSixteenthsAlone();
         leastBesideTheNumbers();
         lampByAllSixteenths();
+        lampFromMinuteZeroToTheLast();
         lampWhereNothingIsMissed();
         lampBesideTheNumbers();
         learnFromTheFirstNightOn();
@@ -300,6 +301,26 @@ public final class LotsEdgesTest {
         UnguessedRound rich = poor("0;1");
         rich.worth(5, 99);
         D.due("lamp in the only one", rich.lamp(0, 1, 8, 5), 1584);
+    }
+
+    /** BREAKS that are well from MINUTE 0 or the last one alone, and ones that would be well a MINUTE beyond these. */
+    private static void lampFromMinuteZeroToTheLast() {
+        lampOf(onceFromMinuteZero(7), 112);
+        lampOf(crossed(7, 0, 6), 112);
+        lampOf(crossed(7, 0, 7), 56);
+        UnguessedRound tooEarly = onceFromMinuteZero(7);
+        tooEarly.way(0, 2, 4);
+        lampOf(tooEarly, 56);
+        lampOf(crossed(7, 0, 8), 56);
+    }
+
+    /** What thieves have in SHED 1 is all they have; then there is more in SHED 5. */
+    private static void lampOf(UnguessedRound x, int inOne) {
+        D.due("breaks by 8", x.breaks(0, 1, 8, 2), inOne);
+        D.due("lamp in the only one", x.lamp(0, 1, 8, 1), inOne);
+        x.worth(5, 20);
+        D.due("lamp in 5", x.lamp(0, 1, 8, 5), 320 - inOne);
+        D.due("lamp in 1", x.lamp(0, 1, 8, 1), 0);
     }
 
     private static void lampWhereNothingIsMissed() {

@@ -104,6 +104,11 @@ public final class SheetsEdgesTest {
         UnguessedRound back = lostAgain(3, 2, 6);
         back.sheet(3, 2, 6);
         rowOf("a new row where one was lost", back, 3, 2, 0, 0, 0, 0, 0, 0);
+        for (int s = 0; s < 4; s++) {
+            UnguessedRound full = lostAgain(s, 2, 48);
+            full.sheet(s, 2, 48);
+            rowOf("a new row of the most items", full, s, 2, new int[48]);
+        }
         UnguessedRound longer = sheets();
         longer.sheet(2, 2, 1);
         longer.sheet(2, 2, 4);
