@@ -21,6 +21,7 @@ public final class SheetsEdgesTest {
         getTheLeastIntItself();
         getRefusalsInTheirOrder();
         copyAsTheyWere();
+        copyOfAllSmallRows();
         copyNone();
         copyAll();
         copyBesideTheItems();
@@ -277,6 +278,43 @@ public final class SheetsEdgesTest {
             D.due("copy in a sheet " + r[0] + ", " + r[1] + ", " + r[2], x.copy(0, r[0], 0, r[1], r[2]), 1);
             rowOf("copy in a sheet", x, 0, 0, r[3], r[4], r[5], r[6], r[7]);
             rowOf("beside it", x, 1, 1, 10, 11, 12);
+        }
+    }
+
+    /** From each SHEET to each, from each item to each, as many as there are and one more; a copy ahead of it is forgotten. */
+    private static void copyOfAllSmallRows() {
+        for (int s = 0; s < 4; s++) {
+            for (int t = 0; t < 4; t++) {
+                for (int i = 0; i <= 4; i++) {
+                    for (int j = 0; j <= 4; j++) {
+                        for (int n = 0; n <= 4; n++) {
+                            copyOfASmallRow(s, i, t, j, n);
+                        }
+                    }
+                }
+            }
+        }
+    }
+
+    private static void copyOfASmallRow(int s, int i, int t, int j, int n) {
+        UnguessedRound x = new UnguessedRound();
+        int[][] rows = new int[4][3];
+        for (int sheet = 0; sheet < 4; sheet++) {
+            x.sheet(sheet, 2, 3);
+            for (int item = 0; item < 3; item++) {
+                rows[sheet][item] = 10 * sheet + item + 1;
+                x.put(sheet, 2, item, rows[sheet][item]);
+            }
+        }
+        String call = "copy " + s + ", " + i + ", " + t + ", " + j + ", " + n;
+        D.due("copy all to where they are", x.copy((s + 1) % 4, 0, (s + 1) % 4, 0, 3), 1);
+        boolean there = i + n <= 3 && j + n <= 3;
+        D.due(call, x.copy(s, i, t, j, n), there ? 1 : INDEX);
+        if (there) {
+            System.arraycopy(rows[s], i, rows[t], j, n);
+        }
+        for (int sheet = 0; sheet < 4; sheet++) {
+            rowOf(call, x, sheet, 2, rows[sheet]);
         }
     }
 
